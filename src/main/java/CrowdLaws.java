@@ -103,7 +103,7 @@ public final class CrowdLaws {
     }
 
     public int bad(int crowd) {
-        if (crowd <= 0 || !laws.hasDigitsEnough(crowd)) {
+        if (crowd <= 0 || !laws.hasFewDigits(crowd)) {
             return BAD;
         }
         if (laws.badCount >= MOST_BAD_ONES) {
@@ -472,7 +472,7 @@ public final class CrowdLaws {
         }
 
         /** Whether a number that isn't negative has no more digits than there are STATES. */
-        boolean hasDigitsEnough(int digits) {
+        boolean hasFewDigits(int digits) {
             int left = digits;
             for (int i = 0; i < stateCount; i++) {
                 left /= 10;
@@ -481,7 +481,7 @@ public final class CrowdLaws {
         }
 
         boolean isMap(int map) {
-            if (map < 0 || !hasDigitsEnough(map)) {
+            if (map < 0 || !hasFewDigits(map)) {
                 return false;
             }
             int left = map;
@@ -530,6 +530,27 @@ public final class CrowdLaws {
         }
     }
 
+    /** A number for each RULE in each of many rows. */
+    private static final class ByRule {
+        private final int[] cells;
+
+        ByRule(int[] cells) {
+            this.cells = cells;
+        }
+
+        int of(int row, int rule) {
+            int cell = row * MOST_RULES + rule;
+            return cell >= 0 && cell < cells.length ? cells[cell] : NONE;
+        }
+
+        void set(int row, int rule, int n) {
+            int cell = row * MOST_RULES + rule;
+            if (cell >= 0 && cell < cells.length) {
+                cells[cell] = n;
+            }
+        }
+    }
+
     /** BASES in their order, of which none is AT LEAST another one: they come by how many are in them, the fewest first. */
     private static final class Bases {
         // One more than there may be, to see that there are too many.
@@ -562,7 +583,7 @@ public final class CrowdLaws {
             return false;
         }
 
-        /** Takes in one that is AT LEAST none that is here; when there are too many, it is one more of too many. */
+        /** Takes in one that is AT LEAST none that is here; once there are too many, it doesn't matter which they are. */
         void take(Crowd crowd, boolean isFresh) {
             if (areTooMany()) {
                 return;
@@ -585,7 +606,7 @@ public final class CrowdLaws {
     /** THE SEARCH: backward from the BAD ones, for all numbers at once. */
     private static final class Backward {
         private final Laws laws;
-        private final int[] sums = new int[MOST_BASES * MOST_RULES];
+        private final ByRule sums = new ByRule(new int[MOST_BASES * MOST_RULES]);
         private final Crowd lack = new Crowd();
         private final Crowd maker = new Crowd();
         private Bases now = new Bases();
@@ -669,22 +690,10 @@ public final class CrowdLaws {
                 for (int j = 0; j < laws.ruleCount; j++) {
                     int sum = laws.rules[j].findLack(now.rows[i], laws.stateCount, lack);
                     highest = Math.max(highest, sum);
-                    setSum(i, j, sum);
+                    sums.set(i, j, sum);
                 }
             }
             return highest;
-        }
-
-        private void setSum(int base, int rule, int sum) {
-            int place = base * MOST_RULES + rule;
-            if (place >= 0 && place < sums.length) {
-                sums[place] = sum;
-            }
-        }
-
-        private int sumOf(int base, int rule) {
-            int place = base * MOST_RULES + rule;
-            return place >= 0 && place < sums.length ? sums[place] : NONE;
         }
 
         private void keepOld(int sum) {
@@ -699,7 +708,7 @@ public final class CrowdLaws {
         private void bringNew(int sum) {
             for (int i = 0; i < now.count; i++) {
                 for (int j = 0; now.fresh[i] && j < laws.ruleCount; j++) {
-                    if (sumOf(i, j) == sum) {
+                    if (sums.of(i, j) == sum) {
                         setOut(laws.rules[j], now.rows[i]);
                         fillFrom(laws.rules[j], 0);
                     }
@@ -754,7 +763,8 @@ public final class CrowdLaws {
         private final int[] codes = new int[MOST_CROWDS];
         private final int[] levels = new int[MOST_CROWDS];
         private final int[] queue = new int[MOST_CROWDS];
-        private final int[] goals = new int[MOST_CROWDS * MOST_RULES];
+        // Where a RULE leads; NONE, if it can't step there.
+        private final ByRule goals = new ByRule(new int[MOST_CROWDS * MOST_RULES]);
         private final boolean[] leading = new boolean[MOST_CROWDS];
         private final int[] path = new int[MOST_CROWDS];
         private int walked = NONE;
@@ -900,26 +910,13 @@ public final class CrowdLaws {
                         goal = placeOf(codeOf(to));
                         come(goal, level);
                     }
-                    setGoal(place, j, goal);
+                    goals.set(place, j, goal);
                 }
             }
         }
 
         private int levelOf(int place) {
             return isPlace(place) ? levels[place] : NONE;
-        }
-
-        private void setGoal(int place, int rule, int goal) {
-            int cell = place * MOST_RULES + rule;
-            if (cell >= 0 && cell < goals.length) {
-                goals[cell] = goal;
-            }
-        }
-
-        /** Where a RULE leads; NONE, if it can't step there. */
-        private int goalOf(int place, int rule) {
-            int cell = place * MOST_RULES + rule;
-            return cell >= 0 && cell < goals.length ? goals[cell] : NONE;
         }
 
         /** The queue has those of fewer steps first. */
@@ -949,7 +946,7 @@ public final class CrowdLaws {
         private int firstLeading(int place) {
             int first = NONE;
             for (int j = 0; j < laws.ruleCount; j++) {
-                int goal = goalOf(place, j);
+                int goal = goals.of(place, j);
                 boolean isOn = isPlace(goal) && leading[goal] && levelOf(goal) == levelOf(place) + 1;
                 if (isOn && (first == NONE || goal < first)) {
                     first = goal;
