@@ -12,6 +12,8 @@ public final class ReferenceTest {
     private static final int UNKNOWN = -1, BAD = -2, STATE = -3, FULL = -4, SPENT = -5, NONE = -9;
     // What the second program can't find out in a bearable time.
     private static final int TOO_DEAR = -77;
+    // Nothing is promised of an object behind its 512th call.
+    private static final int MOST_CALLS = 512;
 
     private static int wrong = 0;
     private static int searches = 0, spentOnes = 0, dearOnes = 0, longRuns = 0;
@@ -65,6 +67,7 @@ public final class ReferenceTest {
         final Reference y = new Reference();
         final StringBuilder told = new StringBuilder();
         int calls = 0;
+        boolean isOver = false;
         final int most, wildness;
 
         Run(int number) {
@@ -135,7 +138,8 @@ public final class ReferenceTest {
             for (int i = 0; i < tellings; i++) {
                 tell();
             }
-            while (calls < 150 && wrong == before) {
+            // No turn but the comparison of BASES and RUNS, which look how many calls are left, takes more than 12.
+            while (calls < MOST_CALLS - 12 && !isOver && wrong == before) {
                 int kind = below(20);
                 if (kind == 0) {
                     tell();
@@ -218,22 +222,44 @@ public final class ReferenceTest {
             searches++;
             spentOnes += got == SPENT ? 1 : 0;
             if (want == TOO_DEAR) {
-                y.takeFrom(x, got);
+                takeBases(got);
             } else {
                 allBases();
+            }
+        }
+
+        /** When the second program gave up: from here on it takes what the first one found. */
+        void takeBases(int outcome) {
+            y.outcome = outcome;
+            y.found = new ArrayList<>();
+            int count = outcome < 0 ? 0 : x.bases();
+            calls++;
+            isOver = calls + count * y.s > MOST_CALLS;
+            for (int i = 0; i < count && !isOver; i++) {
+                List<Integer> base = Reference.empty(y.s);
+                for (int j = 0; j < y.s; j++) {
+                    base.set(j, x.base(i, j));
+                    calls++;
+                }
+                y.found.add(base);
             }
         }
 
         void allBases() {
             due("bases", x.bases(), y.bases());
             for (int i = 0; i < y.found.size(); i++) {
-                for (int j = 0; j < y.s; j++) {
-                    int got = x.base(i, j);
-                    int want = y.base(i, j);
-                    if (got != want) {
-                        due("base " + i + " " + j, got, want);
-                    }
+                for (int j = 0; j < y.s && calls < MOST_CALLS; j++) {
+                    compare("base " + i + " " + j, x.base(i, j), y.base(i, j));
                 }
+            }
+        }
+
+        /** Without a word, if it is as due: these are many. */
+        void compare(String call, int got, int want) {
+            if (got == want) {
+                calls++;
+            } else {
+                due(call, got, want);
             }
         }
 
@@ -255,12 +281,8 @@ public final class ReferenceTest {
             int steps = y.steps(n);
             longRuns += steps > 1 ? 1 : 0;
             for (int i = 0; i <= steps; i++) {
-                for (int j = 0; j < y.s; j++) {
-                    int got = x.run(n, i, j);
-                    int want = y.run(n, i, j);
-                    if (got != want) {
-                        due("run " + n + " " + i + " " + j, got, want);
-                    }
+                for (int j = 0; j < y.s && calls < MOST_CALLS; j++) {
+                    compare("run " + n + " " + i + " " + j, x.run(n, i, j), y.run(n, i, j));
                 }
             }
         }
@@ -548,19 +570,6 @@ public final class ReferenceTest {
                 }
             }
             return remain;
-        }
-
-        /** When the second program gave up: from here on it takes what the first one found. */
-        void takeFrom(CrowdLaws x, int outcome) {
-            this.outcome = outcome;
-            found = new ArrayList<>();
-            for (int i = 0; outcome >= 0 && i < x.bases(); i++) {
-                List<Integer> base = empty(s);
-                for (int j = 0; j < s; j++) {
-                    base.set(j, x.base(i, j));
-                }
-                found.add(base);
-            }
         }
 
         int search() {
