@@ -66,10 +66,10 @@ abstract class Asking {
     /** So many RULES and BAD ones as there may be. */
     static CrowdLaws full() {
         CrowdLaws x = rich();
-        while (x.total(1) < 12) {
+        for (int i = 3; i < 12; i++) {
             x.alone(2, 2);
         }
-        while (x.total(2) < 6) {
+        for (int i = 2; i < 6; i++) {
             x.bad(900);
         }
         x.search();
